@@ -801,14 +801,9 @@ public final class BareThursday {
             }
             int p = people;
             people++;
-            // An undo may have left here what one had who is gone.
+            // All else is as at first here: a place is given back by become() alone, which takes all back.
             put(p, KIND, newKind);
             put(p, CELL, newCell);
-            put(p, GUISE, 0);
-            put(p, MET, 0);
-            put(p, KNOWS, 0);
-            put(p, OUT, 0);
-            put(p, PASSED, 0);
             return p;
         }
 
@@ -1154,19 +1149,18 @@ public final class BareThursday {
         int readText(Town town) {
             end = 0;
             nextToken();
-            for (int items = 1; items <= TAPE_MOST; items++) {
-                // Who can't take a token leaves it the present one, so that it is the fault.
-                if (!readItem(town)) {
-                    return -1 - begin;
-                }
+            int items = 0;
+            while (items < TAPE_MOST && readItem(town)) {
+                items++;
                 if (token == END) {
                     return items;
                 }
                 if (token != SIGN) {
-                    return -1 - begin;
+                    break;
                 }
                 nextToken();
             }
+            // Who can't take a token leaves it the present one, so that it is the fault.
             return -1 - begin;
         }
 

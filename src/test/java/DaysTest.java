@@ -13,6 +13,7 @@ final class DaysTest {
         knowingOrder(due);
         goEdges(due);
         farDays(due);
+        muchJoy(due);
         now(due);
     }
 
@@ -201,6 +202,29 @@ final class DaysTest {
         due.is("now(0)", x.now(0), 99999);
     }
 
+    // Within 512 calls JOY does not come near 99999 either.
+    private static void muchJoy(Due due) {
+        due.test("promise 9: joy is 99999 at most");
+        BareThursday x = Towns.of("wet;wet;wet;wet;wet;wet;wet;wet");
+        for (int p = 0; p < 8; p++) {
+            x.change(p, 3, 255 & ~(1 << p));
+        }
+        int joy = 0;
+        for (int i = 0; i < 90; i++) {
+            for (int p = 0; p < 8; p++) {
+                x.change(p, 4, 0);
+            }
+            joy = Math.min(99999, joy + 8 * 7 * 20);
+            due.is("joy(12)", x.joy(12), joy);
+            due.is("go(12)", x.go(12), joy);
+        }
+        due.is("now(1)", x.now(1), 99999);
+        x.change(0, 4, 0);
+        due.test("promises 16, 19: no joy above 99999");
+        due.is("dark(12)", x.dark(12), 0);
+        due.is("standFor(0, 12)", x.standFor(0, 12), 0);
+    }
+
     private static void now(Due due) {
         due.test("promise 10: now tells each");
         BareThursday x = Towns.of("wet as 3;wet as 3;harp at 9 as 11;noise at 5;met 0 1;met 0 2;bell 11");
@@ -214,6 +238,8 @@ final class DaysTest {
         }
         x.change(1, 6, 9);
         due.is("now(6)", x.now(6), 19);
+        x.change(0, 2, 5);
+        due.is("now(5)", x.now(5), 8 | 32 | 2048 | 1);
         due.test("promise 10: whether it is the day");
         x = new BareThursday();
         for (int day = 0; day < 36; day++) {

@@ -54,12 +54,4 @@ final class Towns {
         }
         return told.toString();
     }
-
-    static String sheetsAndStatus(BareThursday x) {
-        StringBuilder told = new StringBuilder();
-        for (int which = -1; which <= 6; which++) {
-            told.append(' ').append(x.status(which));
-        }
-        return told.toString();
-    }
 }
