@@ -128,6 +128,8 @@ final class TextTest {
         due.is("text", Towns.read(x, "harp atas"), -6);
         due.is("text", Towns.read(x, "met 01"), -7);
         due.is("text", Towns.read(x, "met 0 1;met 1 0"), 2);
+        due.is("of(0, 3)", x.of(0, 3), 2);
+        due.is("of(1, 3)", x.of(1, 3), 1);
     }
 
     private static void fault(Due due, BareThursday x, String text, int place) {
