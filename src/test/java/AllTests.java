@@ -18,6 +18,7 @@ public final class AllTests {
         TextTest.all(due);
         SheetTest.all(due);
         ImageTest.all(due);
+        EdgeTests.all(due);
         OracleTest.all(due);
         FaceTest.all(due, args[0], args[1]);
         if (!due.end()) {

@@ -1,3 +1,6 @@
+import java.util.ArrayList;
+import java.util.List;
+
 /** Counts tests: a test is a name and the calls told until the next name. */
 final class Due {
     static final int BEYOND = -1000001;
@@ -12,11 +15,17 @@ final class Due {
     private int failed;
     private String name;
     private boolean right;
+    private final List<String> names = new ArrayList<>();
 
     void test(String itsName) {
         close();
         name = itsName;
         right = true;
+        names.add(itsName);
+    }
+
+    List<String> names() {
+        return names;
     }
 
     void is(String call, long got, long want) {
