@@ -1,11 +1,11 @@
-/** Arguments: the class's source file, and the document. */
+/** Arguments: the class's source file, the document, and README.md. */
 public final class AllTests {
     private AllTests() {
     }
 
     public static void main(String[] args) throws Exception {
-        if (args.length != 2) {
-            System.out.println("usage: AllTests BareThursday.java DOC.md");
+        if (args.length != 3) {
+            System.out.println("usage: AllTests BareThursday.java DOC.md README.md");
             System.exit(2);
         }
         Due due = new Due();
@@ -21,6 +21,7 @@ public final class AllTests {
         EdgeTests.all(due);
         OracleTest.all(due);
         FaceTest.all(due, args[0], args[1]);
+        ReadmeTest.all(due, args[2], args[1]);
         if (!due.end()) {
             System.exit(1);
         }
